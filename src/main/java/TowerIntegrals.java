@@ -24,6 +24,7 @@ public final class TowerIntegrals {
     // L to the 0 .. 6, E to the -4 .. -1, E to the 1 .. 4, each with x to the -8 .. 8.
     private static final int WIDE_KINDS = 15;
     private static final int WIDE_L_KINDS = 7;
+    private static final int WIDE_LOWEST_E = -4;
     private static final int WIDE_LOWEST = 2 * LOWEST;
     private static final int WIDE_HIGHEST = 2 * HIGHEST;
     private static final int WIDE_POWERS = WIDE_HIGHEST - WIDE_LOWEST + 1;
@@ -150,8 +151,9 @@ public final class TowerIntegrals {
         int eInverse = inverse(eNumber);
         int sum = 0;
         for (int kind = 0; kind < KINDS; kind++) {
-            int kindValue = multiply(power(lNumber, L_POWER[kind]),
-                    power(E_POWER[kind] < 0 ? eInverse : eNumber, Math.abs(E_POWER[kind])));
+            int i = exponentialPower(kind);
+            int kindValue = multiply(power(lNumber, logPower(kind)),
+                    power(i < 0 ? eInverse : eNumber, Math.abs(i)));
             sum = reduce(sum + (long) kindValue * valueInX(f, kind, xNumber, xInverse));
         }
         return sum;
@@ -206,6 +208,14 @@ public final class TowerIntegrals {
 
     private static boolean isPower(int n) {
         return n >= LOWEST && n <= HIGHEST;
+    }
+
+    private static int logPower(int kind) {
+        return isKind(kind) ? L_POWER[kind] : 0;
+    }
+
+    private static int exponentialPower(int kind) {
+        return isKind(kind) ? E_POWER[kind] : 0;
     }
 
     // Numbers modulo 32003.
@@ -323,12 +333,11 @@ public final class TowerIntegrals {
 
     /** Of two kinds that don't bring L and E together. */
     private static int wideKind(int first, int second) {
-        int e = E_POWER[first] + E_POWER[second];
+        int e = exponentialPower(first) + exponentialPower(second);
         if (e == 0) {
-            return L_POWER[first] + L_POWER[second];
+            return logPower(first) + logPower(second);
         }
-        int lowestE = E_POWER[LAST_LOG + 1] * 2;
-        return WIDE_L_KINDS + e - lowestE - (e > 0 ? 1 : 0);
+        return WIDE_L_KINDS + e - WIDE_LOWEST_E - (e > 0 ? 1 : 0);
     }
 
     private static int widePlace(int wideKind, int n) {
@@ -390,7 +399,7 @@ public final class TowerIntegrals {
     /** Of x to the n times a kind in the slope: from x's slope, from E's, and from L's. */
     private int slopeNumber(int f, int kind, int n) {
         long sum = (long) (n + 1) * number(f, kind, n + 1);
-        sum += (long) E_POWER[kind] * number(f, kind, n);
+        sum += (long) exponentialPower(kind) * number(f, kind, n);
         if (kind < LAST_LOG) {
             sum += (long) (kind + 1) * number(f, kind + 1, n + 1);
         }
@@ -424,7 +433,7 @@ public final class TowerIntegrals {
         if (kind <= LAST_LOG) {
             return 0;
         }
-        int i = E_POWER[kind];
+        int i = exponentialPower(kind);
         int settled = 0;
         for (int n = LOWEST; n < -1; n++) {
             settled = divide(number(f, kind, n) - (long) i * settled, n + 1);
@@ -476,7 +485,7 @@ public final class TowerIntegrals {
         for (int kind = LAST_LOG + 1; kind < KINDS; kind++) {
             int above = 0;
             for (int n = HIGHEST; n > LOWEST; n--) {
-                above = divide(number(f, kind, n) - (long) (n + 1) * above, E_POWER[kind]);
+                above = divide(number(f, kind, n) - (long) (n + 1) * above, exponentialPower(kind));
                 setDraft(kind, n, above);
             }
         }
