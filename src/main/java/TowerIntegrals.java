@@ -256,16 +256,17 @@ public final class TowerIntegrals {
         return row * SIZE + kind * POWERS + n - LOWEST;
     }
 
+    private static boolean isPlace(int row, int kind, int n) {
+        return row >= 0 && row < LIMIT && isKind(kind) && isPower(n);
+    }
+
     /** 0 where no number can stand, so that sums may reach past the edges. */
     private int number(int row, int kind, int n) {
-        if (row < 0 || row >= LIMIT || !isKind(kind) || !isPower(n)) {
-            return 0;
-        }
-        return numbers[place(row, kind, n)];
+        return isPlace(row, kind, n) ? numbers[place(row, kind, n)] : 0;
     }
 
     private void setDraft(int kind, int n, int v) {
-        if (made < LIMIT && isKind(kind) && isPower(n)) {
+        if (isPlace(made, kind, n)) {
             numbers[place(made, kind, n)] = v;
         }
     }
